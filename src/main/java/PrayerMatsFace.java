@@ -445,6 +445,7 @@ public final class PrayerMatsFace {
             quarrelOf = new int[MOST_PEOPLE * MOST_PEOPLE];
         }
 
+        // Places without people are copied too: so their quarrels are 0 for whoever comes next.
         void copyFrom(Meeting other) {
             for (int person = 0; person < MOST_PEOPLE; person++) {
                 setCell(kinds, person, cell(other.kinds, person));
@@ -485,10 +486,6 @@ public final class PrayerMatsFace {
             setCell(figures, person, figure);
             setCell(hours, person, comingHours);
             setCell(mates, person, NONE);
-            // The place may have been somebody's whom an image took away again.
-            for (int other = 0; other < MOST_PEOPLE; other++) {
-                setQuarrel(person, other, 0);
-            }
             number++;
             return person;
         }
@@ -1197,8 +1194,6 @@ public final class PrayerMatsFace {
 
     /** Which of all ways to pair people none would leave, and by which most mends. */
     private static final class Pairs {
-        private static final int NO_WAY = -1;
-
         private final Meeting now;
         private final Meeting draft;
         private final Kneeling kneeling;
@@ -1409,7 +1404,6 @@ public final class PrayerMatsFace {
         private static final int STATEMENT_DUE = -1;
         private static final int END_DUE = 0;
         private static final int NOTHING_FITS = -2;
-        private static final int LETTERS_BESIDE_DIGITS = 2;
 
         private final Kneeling kneeling;
         private final int[] letters;
@@ -1443,15 +1437,14 @@ public final class PrayerMatsFace {
             int place = firstLetterAmiss();
             if (place != NOWHERE) return FAULT_OF_LETTER - place;
             int statements = 0;
-            for (place = 0; place < number; place += lengthOfStatement(place)) {
-                if (!carryOut(draft, place)) return FAULT_OF_STATEMENT - place;
+            int first = 0;
+            for (int end = 0; end < number; end++) {
+                if (cell(letters, end) != ';') continue;
+                if (!carryOut(draft, first)) return FAULT_OF_STATEMENT - first;
                 statements++;
+                first = end + 1;
             }
             return statements;
-        }
-
-        private int lengthOfStatement(int place) {
-            return LETTERS_BESIDE_DIGITS + Math.max(0, digitsBehind(cell(letters, place)));
         }
 
         private int firstLetterAmiss() {
