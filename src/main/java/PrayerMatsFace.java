@@ -1434,8 +1434,8 @@ public final class PrayerMatsFace {
 
         /** How many statements there were, or the fault; with a fault the draft is of no use. */
         int readInto(Meeting draft) {
-            int place = firstLetterAmiss();
-            if (place != NOWHERE) return FAULT_OF_LETTER - place;
+            int amiss = firstLetterAmiss();
+            if (amiss != NOWHERE) return FAULT_OF_LETTER - amiss;
             int statements = 0;
             int first = 0;
             for (int end = 0; end < number; end++) {
