@@ -366,6 +366,13 @@ public final class BoundariesInMindTest extends Boundary {
     }
 
     private static void p23Swap() {
+        sentence(23, "SWAP: two mats (10 the least one of the first mat and the least of the second) that, changing the ones who are not the least,");
+        due(told("p0000;p0000;p0000;p0000;q0301;m03;m12;"), 1, "swap");
+        due(told("p0000;p0000;p0000;p0000;p0000;p0000;q1401;m14;m35;"), 13, "swap");
+        due(told("p0000;p0000;p0000;p0000;p0000;p0000;q4501;m45;m23;"), 24, "swap");
+        due(told("p0000;p0000;p0000;p0000;p0000;p0000;q2501;m25;m34;"), 23, "swap");
+        inMind(Scenes::full, 2, "swap");
+
         sentence(23, "make all LIKES (each for his MATE) together most, more than now, of several the first; -9.");
         inMind(Scenes::nobody, -9, "swap");
         inMind(Scenes::lively, -9, "swap");
@@ -451,8 +458,19 @@ public final class BoundariesInMindTest extends Boundary {
             due(x, want, "ways", 1, 0);
         }
         inMind(Scenes::lively, 11, "ways", 0, 1);
+        sentence(26, "give way (QUARREL 10 less at once) or not, both at once: each would have most of 20, less QUARREL then, and 8 more, if he does not give way and the other does; 5 less, if he does and the other does not");
+        due(waysAt(5), 0, "ways", 0, 1);
+        due(waysAt(6), 1, "ways", 0, 1);
+        due(waysAt(18), 1, "ways", 0, 1);
+        due(waysAt(19), 11, "ways", 0, 1);
         sentence(26, "WAYS; -9. -1 either (one twice).");
         twoRefused("ways");
+    }
+
+    private static PrayerMatsFace waysAt(int quarrel) {
+        PrayerMatsFace x = Scenes.alike(2);
+        x.quarrels(0, 1, quarrel);
+        return x;
     }
 
     private static void awayOf(PrayerMatsFace x, int person, int v, int n, int t, long above, long below) {

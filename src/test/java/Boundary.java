@@ -248,7 +248,9 @@ abstract class Boundary {
         if (wrong != 0) System.exit(1);
     }
 
-    // WAYS is the same game for both, and such a game of two choices always has a pair that neither leaves;
+    // WAYS is the same game for both, and such a game of two choices always has a pair that neither leaves. The -9 of
+    // PAIRINGS is that of one alone: LIKES and his own CHARM are the same both ways, so those two of all who would have
+    // each other with most of it never part, then those of the others, and so on: there is always a steady one.
     // count() names the other calls' REFUSALS and has none itself.
     private static boolean canBe(int ofPromise, String number) {
         boolean none = number.equals("-9");
