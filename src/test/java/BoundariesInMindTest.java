@@ -263,6 +263,24 @@ public final class BoundariesInMindTest extends Boundary {
         inMind(() -> matesWhoCome(), 0, "bestPairing", 1, 5);
     }
 
+    // What was counted for more PEOPLE must not be looked at when an image leaves fewer.
+    private static void p19OfFewer() {
+        sentence(19, "BEST PAIRING: of all PAIRINGS that by which all QUARRELS together behind n DAYS are least");
+        PrayerMatsFace x = new PrayerMatsFace();
+        for (int people = 0; people <= 6; people++) {
+            x.image();
+            for (int more = people; more < 6; more++) x.person(0, 0, 31);
+            for (int one = 0; one < 6; one++) {
+                for (int other = one + 1; other < 6; other++) x.quarrels(one, other, 50);
+            }
+            due(x, 600, "bestPairing", 5, -1);
+            x.restore();
+            due(x, 0, "bestPairing", 5, -1);
+            for (int person = 0; person < people; person++) due(x, -9, "bestPairing", 5, person);
+            if (people < 6) x.person(0, 0, 31);
+        }
+    }
+
     /** Six PERSONS who always come, with QUARRELS of 50 in the last of all ways to put them alone. */
     private static PrayerMatsFace matesWhoCome() {
         PrayerMatsFace x = quarrelsOfSix(0, 5, 50);
@@ -558,6 +576,7 @@ public final class BoundariesInMindTest extends Boundary {
         p17Leaves();
         p18Pairings();
         p19BestPairing();
+        p19OfFewer();
         p20Soonest();
         p21MateFor();
         p22HoursFor();
