@@ -53,7 +53,7 @@ abstract class Boundary {
         return calls;
     }
 
-    private static void fault(String text) {
+    static void fault(String text) {
         wrong++;
         if (wrong > SHOWN) return;
         System.out.println("promise " + promise + ", \"" + words + "\": " + text);
@@ -71,7 +71,7 @@ abstract class Boundary {
         }
     }
 
-    private static String section(int ofPromise) {
+    static String section(int ofPromise) {
         int start = TEXT.indexOf("## Promise " + ofPromise + ":");
         int end = TEXT.indexOf("\n## ", start);
         return TEXT.substring(start, end < 0 ? TEXT.length() : end);
@@ -89,7 +89,7 @@ abstract class Boundary {
         }
     }
 
-    private static String told(String call, int... arguments) {
+    static String told(String call, int... arguments) {
         String list = Arrays.toString(arguments);
         return call + "(" + list.substring(1, list.length() - 1) + ")";
     }
@@ -138,7 +138,7 @@ abstract class Boundary {
         return arguments;
     }
 
-    private static long answerOf(int number, String call) {
+    static long answerOf(int number, String call) {
         if (CALLS.get(call).getReturnType() == long.class) return LONG_REFUSAL - number;
         return call.equals("turn") || call.equals("helps") ? INT_REFUSAL - number : number;
     }
@@ -244,7 +244,11 @@ abstract class Boundary {
                 }
             }
         }
-        System.out.println(wrong == 0 ? sentences + " sentences hold" : wrong + " answers are not as due");
+        result(sentences + " sentences hold");
+    }
+
+    static void result(String allIsWell) {
+        System.out.println(wrong == 0 ? allIsWell : wrong + " answers are not as due");
         if (wrong != 0) System.exit(1);
     }
 
